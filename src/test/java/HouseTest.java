@@ -131,9 +131,14 @@ public final class HouseTest {
         check.due("house()", x.house(), 1);
         int[] counts = {1, 7, 0, 0, 0, 0, 0, 2};
         for (int what = 0; what <= 7; what++) check.due("count(" + what + ")", x.count(what), counts[what]);
-        check.due("saying(0, 0)", x.saying(0, 0), 4);
-        check.due("saying(3, 0)", x.saying(3, 0), 1);
-        check.due("saying(3, 11)", x.saying(3, 11), DripSayings.NONE);
+        int[][] sayings = {{4, 1, 1, 1, 1}, {1, 1, -1, -1, -1}, {1, 0, -1, -1, -1}, {1, 0, -1, -1, -1}};
+        int[] whats = {0, 10, 11, 12, 13};
+        for (int saying = 0; saying < 4; saying++) {
+            for (int i = 0; i < 5; i++) {
+                String call = "saying(" + saying + ", " + whats[i] + ")";
+                check.due(call, x.saying(saying, whats[i]), sayings[saying][i]);
+            }
+        }
         check.due("about(1, 0)", x.about(1, 0), DripSayings.UNKNOWN);
         check.due("restore()", x.restore(), DripSayings.STATE);
         check.due("digest as of a house read first", x.digest(), digestWithTwoReads());

@@ -166,6 +166,10 @@ public final class PutDownTest {
         x.put(2, 1, false);
         check.due("likely, all slip once", x.about(2, 6), 0);
         check.due("slips, all once", x.about(2, 7), 1);
+        DripSayings long4 = Check.withHouse("l,l,l,l;t0");
+        long4.put(0, 0, false);
+        check.due("likely, where none can say it", long4.about(0, 6), 0);
+        check.due("slips, where none can say it", long4.about(0, 7), 1);
     }
 
     private static void promise8Listen() {
