@@ -236,11 +236,13 @@ public final class PutDownTest {
         long before = x.digest();
         int[] seeds = {0, 1, 7, 621, 65535, 2147483647};
         int[] nights = {1, 2, 13, 40};
-        for (int seed : seeds) for (int drips : nights) nightsDue(x, drips, seed);
+        String[] taps = {"s", "l", "sll"};
+        for (int seed : seeds) for (int drips : nights) check.nightsDue(x, taps, drips, seed);
         check.due("digest() behind nights", x.digest(), before);
         x.listen(2);
         x.washer(0, true);
-        for (int seed : seeds) nightsDue(x, 40, seed);
+        String[] then = {"l", "l", "lls"};
+        for (int seed : seeds) check.nightsDue(x, then, 40, seed);
         // one tap that says long, one night of one drip: 12345 by 65536 is 0, so a slip
         DripSayings one = Check.withHouse("l,l,l,l;t0");
         check.due("nights(1, 0, 0)", one.nights(1, 0, 0), 0);
@@ -248,26 +250,6 @@ public final class PutDownTest {
         check.due("nights(1, 0, 2)", one.nights(1, 0, 2), 12345);
         check.due("nights(1, 1, 2)", one.nights(1, 1, 2), 1103527590);
         check.due("nights(1, 1, 1)", one.nights(1, 1, 1), 1103527590 / 65536 % 8 == 0 ? 1 : 0);
-    }
-
-    private static void nightsDue(DripSayings x, int drips, int seed) {
-        java.math.BigInteger next = java.math.BigInteger.valueOf(seed);
-        int longs = 0;
-        int slips = 0;
-        for (int i = 0; i < drips; i++) {
-            for (int tap = 0; tap < x.count(0); tap++) {
-                next = next.multiply(java.math.BigInteger.valueOf(1103515245)).add(java.math.BigInteger.valueOf(12345))
-                    .mod(java.math.BigInteger.TWO.pow(31));
-                boolean slip = next.longValueExact() / 65536 % 8 == 0;
-                boolean isLong = x.drip(tap, x.about(tap, 3) + i) == 1;
-                if (slip) slips++;
-                if (isLong != slip) longs++;
-            }
-        }
-        String call = "nights(" + drips + ", " + seed + ", ";
-        check.due(call + "0)", x.nights(drips, seed, 0), longs);
-        check.due(call + "1)", x.nights(drips, seed, 1), slips);
-        check.due(call + "2)", x.nights(drips, seed, 2), next.longValueExact());
     }
 
     private static void promise18NightsRefused() {
